@@ -137,6 +137,13 @@ public final class CaseTest {
         x.advance(100);
         Check.same("20: up to the beginning", x.elapsed(2), 18);
         Check.same("20: other persons still", x.elapsed(3), 40);
+        Courtyard y = new Courtyard();
+        y.advance(50);
+        y.begin(0, 1, 0, 1, 0, 0);
+        for (int i = 0; i < 12; i++) {
+            y.toll(0, 1, 46 - 4 * i, 46 - 4 * i);
+        }
+        Check.same("20: twelve spans, each alone", y.elapsed(0), 38);
     }
 
     private static void late() {

@@ -12,7 +12,9 @@ public final class JudgmentTest {
         defaults();
         unjudged();
         strongestSection();
+        severalConditions();
         exceptions();
+        severalExceptions();
         issueConditions();
         waived();
         asked();
@@ -122,6 +124,43 @@ public final class JudgmentTest {
         x.answer(0, 255, false);
         x.judge(0);
         Check.same("31: by the last one", x.rowBy(0, 0), 5);
+    }
+
+    private static void severalConditions() {
+        Courtyard x = new Courtyard();
+        law(x, 2, 4, true, -1, "f0f1");
+        law(x, 2, 5, true, -1, "n2n3");
+        law(x, 2, 6, true, -1, "h0h1");
+        law(x, 2, 7, true, -1, "x2x3");
+        law(x, 2, 1, true, -1, "");
+        law(x, 2, 2, true, -1, "f4");
+        x.begin(0, 1, 7, 1, 0, 0);
+        x.concede(0, 1);
+        x.concede(0, 2);
+        x.concede(0, 4);
+        for (int issue = 4; issue < 8; issue++) {
+            Check.same("33: the first condition is not met, issue " + issue, x.wouldHold(0, issue), false);
+        }
+        x.answer(0, 255, false);
+        x.judge(0);
+        Check.same("28: the conditions of issue 7", x.rows(0), 3);
+        Check.same("29: the last row", x.rowIssue(0, 2), 7);
+        Courtyard y = new Courtyard();
+        law(y, 2, 7, true, -1, "x2x3");
+        y.begin(0, 1, 7, 1, 0, 0);
+        Check.same("33: all conditions are met", y.wouldHold(0, 7), true);
+    }
+
+    private static void severalExceptions() {
+        Courtyard x = new Courtyard();
+        law(x, 3, 0, true, -1, "");
+        law(x, 3, 0, true, -1, "");
+        law(x, 0, 0, false, 1, "");
+        law(x, 0, 0, false, 0, "");
+        x.begin(0, 1, 0, 1, 0, 0);
+        Check.same("33: both rules have an exception", x.wouldHold(0, 0), false);
+        x.act(2, false, 0);
+        Check.same("33: one of them has", x.wouldHold(0, 0), true);
     }
 
     private static void exceptions() {

@@ -73,6 +73,8 @@ public final class PrecedentTest {
         Check.same("33: named by a section that never was in force", x.wouldHold(alike, 0), false);
         int plain = begun(x, 3, 0, true);
         Check.same("33: alike in both facts", x.wouldHold(plain, 0), true);
+        int unlike = begun(x, 4, 0, false);
+        Check.same("33: the facts of the first section count too", x.wouldHold(unlike, 0), false);
         x.judge(plain);
         Check.same("31: by the precedent", x.rowBy(plain, 0), 100);
         Check.same("33: of another issue", x.wouldHold(plain, 1), false);
@@ -119,6 +121,7 @@ public final class PrecedentTest {
         x.judge(asked);
         int third = judged(x, 3, 0, true);
         Check.same("31: the highest court", x.rowBy(third, 0), 100 + first);
+        latestByJudgment();
         Courtyard y = withLaw(0);
         judged(y, 0, 1, true);
         judged(y, 1, 1, true);
@@ -128,6 +131,19 @@ public final class PrecedentTest {
         y.decide(0);
         int low = judged(y, 3, 1, true);
         Check.same("31: a decided one has the highest court", y.rowBy(low, 0), 100);
+    }
+
+    private static void latestByJudgment() {
+        Courtyard x = withLaw(2);
+        int first = begun(x, 0, 1, true);
+        int second = begun(x, 1, 1, true);
+        int third = begun(x, 2, 1, true);
+        x.judge(second);
+        x.judge(third);
+        x.judge(first);
+        x.act(0, false, 0);
+        int number = judged(x, 3, 1, true);
+        Check.same("31: the latest judgment, not the last case", x.rowBy(number, 0), 100 + first);
     }
 
     private static void conditionsByPrecedent() {
