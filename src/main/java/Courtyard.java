@@ -814,7 +814,7 @@ public final class Courtyard {
         private final int[] towards = new int[PERSONS];
 
         private boolean stands(int person, int other) {
-            return isPerson(person) && hasBit(towards[person], other);
+            return isPerson(person) && (towards[person] >> other & 1) != 0;
         }
 
         private void put(int person, int other, boolean has) {
