@@ -7,12 +7,19 @@ import java.util.List;
 
 /** Compares long runs of calls, all kinds of them, right and wrong, with the model. */
 public final class ModelTest {
-    private static final int RUNS = 400;
+    private static final int RUNS = 4000;
     private static final int CALLS = 512;
-    private static final int WATCH_EVERY = 64;
+    private static final int LEAST_CHANGES = 150;
+    private static final int MOST_CHANGES = 450;
+    private static final int LAW_CALLS = 70;
+    private static final int DEBT_CALLS = 40;
+    private static final List<String> CHANGING = List.of("advance", "enact", "condition", "act", "setLimit", "toll",
+            "setPrivilege", "begin", "answer", "setStandard", "presume", "concede", "addEvidence", "judge", "appeal",
+            "decide", "give", "setRank", "enforce", "insolvency");
 
     private static long seed = 20261119;
     private static final List<Method> calls = new ArrayList<>();
+    private static final List<Method> questions = new ArrayList<>();
     private static int told = 0;
 
     public static void main(String[] args) throws ReflectiveOperationException {
@@ -22,6 +29,11 @@ public final class ModelTest {
             }
         }
         calls.sort(Comparator.comparing(Method::getName));
+        for (Method method : calls) {
+            if (!CHANGING.contains(method.getName())) {
+                questions.add(method);
+            }
+        }
         Check.same("the methods of the face", calls.size(), 44);
         for (int run = 0; run < RUNS && told == 0; run++) {
             run(run);
@@ -29,41 +41,45 @@ public final class ModelTest {
         Check.end();
     }
 
+    /** Changes for a while, and with the calls that are left asks what came of it. */
     private static void run(int number) throws ReflectiveOperationException {
         Courtyard real = new Courtyard();
         Model model = new Model();
         StringBuilder past = new StringBuilder();
+        int changes = LEAST_CHANGES + below(MOST_CHANGES - LEAST_CHANGES);
         for (int i = 0; i < CALLS && told == 0; i++) {
-            Method call = calls.get(below(calls.size()));
-            for (int tries = 0; tries < 9 && !isWanted(call.getName(), i); tries++) {
-                call = calls.get(below(calls.size()));
-            }
-            Object[] values = arguments(call, i, real);
+            Method call = i < changes ? change(i, changes) : questions.get(below(questions.size()));
+            Object[] values = arguments(call, model);
             past.append("  ").append(text(call, values));
             compare(number, real, model, call, values, past);
-            if (i % WATCH_EVERY == WATCH_EVERY - 1) {
-                watch(number, real, model, past);
-            }
         }
     }
 
-    /** Law first, then cases, then judgments, so that runs come far. */
-    private static boolean isWanted(String name, int at) {
-        if (at < 70) {
-            return List.of("enact", "condition", "act").contains(name);
+    private static Method change(int at, int changes) {
+        Method call = calls.get(below(calls.size()));
+        for (int tries = 0; tries < 30 && !wanted(at, changes).contains(call.getName()); tries++) {
+            call = calls.get(below(calls.size()));
         }
-        if (name.equals("advance") || name.equals("insolvency")) {
-            return below(4) == 0;
+        return below(12) == 0 ? calls.get(below(calls.size())) : call;
+    }
+
+    /** Law first, then cases, then judgments, and debts at last, so that runs come far. */
+    private static List<String> wanted(int at, int changes) {
+        if (at < LAW_CALLS) {
+            return List.of("enact", "enact", "condition", "act");
         }
-        if (at < 250) {
+        if (at < (LAW_CALLS + changes) / 2) {
             return List.of("begin", "addEvidence", "concede", "presume", "answer", "judge", "toll", "setPrivilege",
-                    "wouldHold", "isFound", "advance", "setLimit", "setStandard").contains(name);
+                    "wouldHold", "isFound", "advance", "setLimit", "setStandard");
         }
-        return List.of("judge", "appeal", "decide", "wouldHold", "rowBy", "isPrecedent", "enforce", "give",
-                "insolvency", "setRank", "act", "begin", "advance", "answer").contains(name);
+        if (at < changes - DEBT_CALLS) {
+            return List.of("judge", "appeal", "decide", "wouldHold", "rowBy", "isPrecedent", "act", "begin", "advance",
+                    "answer");
+        }
+        return List.of("setRank", "give", "enforce", "insolvency", "debt", "advance");
     }
 
-    private static Object[] arguments(Method call, int at, Courtyard real) {
+    private static Object[] arguments(Method call, Model model) {
         Class<?>[] types = call.getParameterTypes();
         Object[] values = new Object[types.length];
         for (int i = 0; i < types.length; i++) {
@@ -72,34 +88,34 @@ public final class ModelTest {
             } else if (types[i] == char.class) {
                 values[i] = "fnfnhxhxz".charAt(below(9));
             } else {
-                values[i] = number(call.getName(), i, at, real);
+                values[i] = number(call.getName(), i, model);
             }
         }
         return values;
     }
 
-    private static int number(String name, int at, int calls, Courtyard real) {
+    private static int number(String name, int at, Model model) {
         if (below(60) == 0) {
             return new int[] {-1, -2, 8, 10, 16, 24, 100, 1000, 10000, 100000, Integer.MIN_VALUE,
                 Integer.MAX_VALUE}[below(12)];
         }
         switch (name + at) {
-            case "advance0": return 1 + below(below(3) == 0 ? 100 : 15);
+            case "advance0": return 1 + below(below(8) == 0 ? 100 : 8);
             case "enact0": case "setRank1": return below(4);
-            case "enact1": return below(4);
-            case "enact3": return below(2) == 0 ? -1 : below(real.sections() + 1);
-            case "condition0": case "act0": case "isInForce0": return below(real.sections() + 1);
+            case "enact1": return below(below(8) == 0 ? 8 : 4);
+            case "enact3": return below(2) == 0 ? -1 : below(model.sections() + 1);
+            case "condition0": case "act0": case "isInForce0": return below(model.sections() + 1);
             case "condition2": return below(4);
-            case "act2": case "isInForce1": case "isInForce2": return below(real.day() + 30) * below(2);
-            case "setLimit0": case "begin2": case "wouldHold1": return below(5);
+            case "act2": case "isInForce1": case "isInForce2": return below(model.day() + 30) * below(2);
+            case "setLimit0": case "begin2": case "wouldHold1": return below(below(8) == 0 ? 8 : 5);
             case "setLimit1": return below(60);
             case "toll0": case "toll1": return below(4);
-            case "toll2": return below(real.day() + 20);
-            case "toll3": return below(2 * real.day() + 20);
+            case "toll2": return below(model.day() + 20);
+            case "toll3": return below(2 * model.day() + 20);
             case "begin0": case "begin1": return below(4);
             case "begin3": return 1 + below(below(2) == 0 ? 20 : 99999);
             case "begin4": return below(3);
-            case "begin5": return below(real.day() + 1);
+            case "begin5": return below(model.day() + 1);
             case "answer1": return below(2) == 0 ? 255 : below(256);
             case "setStandard1": case "presume1": case "concede1": case "isFound1": case "joined1":
                 return below(5);
@@ -112,8 +128,8 @@ public final class ModelTest {
             case "rowIssue1": case "rowHeld1": case "rowBy1": return below(5);
             case "setPrivilege0": return below(10);
             case "setPrivilege1": case "give0": case "assets0": case "insolvency0": return below(4);
-            case "give1": return 1 + below(below(2) == 0 ? 50 : 99999);
-            default: return below(Math.min(16, real.cases() + 1));
+            case "give1": return 1 + below(below(4) == 0 ? 99999 : 50);
+            default: return below(4) == 0 ? 0 : below(Math.min(16, model.cases() + 1));
         }
     }
 
@@ -129,8 +145,8 @@ public final class ModelTest {
     private static void compare(int run, Courtyard real, Model model, Method call, Object[] values,
             StringBuilder past) throws ReflectiveOperationException {
         Method twin = Model.class.getMethod(call.getName(), call.getParameterTypes());
-        String got = result(call, real, values);
-        String due = result(twin, model, values);
+        String got = result(call, real, values, true);
+        String due = result(twin, model, values, false);
         Check.same(text(call, values), got.equals(due), true);
         if (!got.equals(due)) {
             told++;
@@ -139,41 +155,13 @@ public final class ModelTest {
         }
     }
 
-    private static String result(Method method, Object target, Object[] values) throws IllegalAccessException {
+    private static String result(Method method, Object target, Object[] values, boolean isReal)
+            throws IllegalAccessException {
         try {
             return String.valueOf(method.invoke(target, values));
         } catch (InvocationTargetException e) {
-            return "throws." + e.getCause().getClass().getName();
+            boolean isByMachine = isReal && !Check.isThrownByStatement(e.getCause());
+            return (isByMachine ? "thrown by the machine: " : "throws.") + e.getCause().getClass().getName();
         }
-    }
-
-    /** Asks everything that can be asked without a change. */
-    private static void watch(int run, Courtyard real, Model model, StringBuilder past)
-            throws ReflectiveOperationException {
-        List<String> changing = List.of("advance", "enact", "condition", "act", "setLimit", "toll", "setPrivilege",
-                "begin", "answer", "setStandard", "presume", "concede", "addEvidence", "judge", "appeal", "decide",
-                "give", "setRank", "enforce", "insolvency");
-        for (Method call : calls) {
-            if (changing.contains(call.getName())) {
-                continue;
-            }
-            int count = call.getParameterCount();
-            for (int i = 0; i < (count == 0 ? 1 : 17); i++) {
-                for (int j = 0; j < (count < 2 ? 1 : 17) && told == 0; j++) {
-                    compare(run, real, model, call, watched(call, i, j, real.day()), past);
-                }
-            }
-        }
-    }
-
-    private static Object[] watched(Method call, int first, int second, int day) {
-        switch (call.getParameterCount()) {
-            case 0: return new Object[0];
-            case 1: return new Object[] {first};
-            case 2: return new Object[] {first, second};
-            default: break;
-        }
-        return call.getParameterTypes()[2] == boolean.class
-                ? new Object[] {first, second, second % 2 == 0} : new Object[] {first, second * 20, day};
     }
 }
